@@ -1,5 +1,5 @@
 import java.nio.charset.StandardCharsets;
-import java.util.function.LongSupplier;
+import java.util.function.Supplier;
 
 /** What the tests share: loading a text, comparing answers, and the exit code. */
 final class Check {
@@ -47,10 +47,10 @@ final class Check {
     }
 
     /** The class has to be that very one: what the Java machine throws is of a class below it. */
-    static void refuses(String what, Class<? extends RuntimeException> due, LongSupplier call) {
+    static void refuses(String what, Class<? extends RuntimeException> due, Supplier<Object> call) {
         checks++;
         try {
-            report(what, Long.toString(call.getAsLong()), due.getSimpleName());
+            report(what, String.valueOf(call.get()), due.getSimpleName());
         } catch (RuntimeException e) {
             if (e.getClass() != due) {
                 report(what, e.toString(), due.getSimpleName());
