@@ -25,6 +25,7 @@ public final class ChangesTest {
         improves();
         improvesByTheFirstOfTheBest();
         improvesNothing();
+        usesAFullStock();
         swapsTrains();
         copiesTrains();
         Check.end("ChangesTest");
@@ -269,6 +270,10 @@ public final class ChangesTest {
         PlanetDrive sides = Check.driveOf("stock 10 40;body a period 200;train a ring 20 20 ring 20 20;");
         Check.equal("the driver of the first", sides.improve(0), 10);
         unchanged(sides, "10o20 20o20 ;", 1);
+        // 2/9 is due, which 10/30 * 20/30 makes and nothing else.
+        PlanetDrive second = Check.driveOf("stock 20;body a period 450;train a ring 10 30 ring 40 30;");
+        Check.equal("the second part", second.improve(0), 20);
+        unchanged(second, "10o30 20o30 ;", 1);
         // 3/4 is due, just between 10/20 and 20/20.
         PlanetDrive tied = Check.driveOf("stock 20 10;body b period 200;body c period 100 on b;"
                 + "train b ring 8 32;train c ring 100 20;");
@@ -289,6 +294,16 @@ public final class ChangesTest {
         equal.removeStock(20);
         Check.equal("an empty stock", equal.improve(1), -1);
         Check.equal("changes", equal.count(5), 1);
+    }
+
+    private static void usesAFullStock() {
+        PlanetDrive drive = Check.driveOf("stock 23 22 21 20 19 18 17 16 15 14 13 12 11 10 9 8;"
+                + "body a period 200;body b period 100 retro;train a ring 30 30;");
+        Check.equal("improves", drive.improve(0), 15);
+        Check.equal("builds", drive.build(1), 3);
+        unchanged(drive, "15o30 ;8/9 9/8 8i0 ;", 2);
+        Check.equal("builds again", drive.build(0), 2);
+        unchanged(drive, "8/12 9/12 ;8/9 9/8 8i0 ;", 3);
     }
 
     private static void swapsTrains() {

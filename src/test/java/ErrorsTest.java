@@ -34,6 +34,7 @@ public final class ErrorsTest {
         findsTheWorstYear();
         countsRevolutions();
         tellsTheGoodShare();
+        takesEightBodies();
         Check.end("ErrorsTest");
     }
 
@@ -142,6 +143,8 @@ public final class ErrorsTest {
         drive.removePart(2);
         drive.removePart(2);
         Check.equal("a pointer that stands", drive.worst(2000), 2);
+        Check.equal("the only one", Check.driveOf("body a period 100;").worst(2000), 0);
+        Check.equal("the first one", Check.driveOf("body a period 100;body b period 200;").worst(2000), 0);
         PlanetDrive tied = Check.driveOf("body a period 100;body b period 200;body c period 200 retro;body d period 200;");
         tied.addPart(0, 1, 8, 8);
         Check.equal("the smallest number on a tie", tied.worst(2000), 1);
@@ -282,5 +285,28 @@ public final class ErrorsTest {
             Check.refuses("limit " + wrong, ARGUMENT, () -> drive.goodShare(2000, wrong));
             Check.refuses("limit without bodies", ARGUMENT, () -> new PlanetDrive().goodShare(2000, wrong));
         }
+    }
+
+    private static void takesEightBodies() {
+        StringBuilder text = new StringBuilder();
+        for (int body = 0; body < 8; body++) {
+            text.append("body ").append((char) ('a' + body)).append(" period ").append(100 * (8 - body)).append(';');
+        }
+        PlanetDrive drive = Check.driveOf(text.toString());
+        // Without trains the error is what should have been made: 1/8 turn a day, 1/7 and so on.
+        for (int body = 0; body < 8; body++) {
+            Check.equal("rank " + body, drive.ranked(2000, body), body);
+            Check.equal("error " + body, drive.errorBy(body, 840), -1296000L * 840 / (8 - body));
+        }
+        Check.equal("the worst", drive.worst(2000), 7);
+        Check.equal("the total", drive.totalError(2000),
+                59292000L + 67762285 + 79056000 + 94867200 + 118584000 + 158112000 + 237168000 + 474336000);
+        Check.equal("the share", drive.goodShare(2000, 237168000), 0.875f);
+        Check.equal("all of them stand", drive.aligned(7, 1, 0), 255);
+        Check.refuses("a ninth body", INDEX, () -> drive.errorBy(8, 0));
+        Check.equal("teeth of all", drive.count(6), 0);
+        Check.equal("uses of all", drive.uses(0), 0);
+        Check.equal("cranks them all", drive.crank(9), 0);
+        Check.equal("reports them all", drive.report(2000), 100);
     }
 }

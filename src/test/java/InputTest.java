@@ -21,6 +21,7 @@ public final class InputTest {
         truncates();
         loadsBodiesAndEmptiesTheBuffer();
         loadReplacesEverything();
+        eachTextIsReadByItself();
         errorChangesNothing();
         tellsTheLatestLoad();
         takesAllThatTheFormAllows();
@@ -141,6 +142,20 @@ public final class InputTest {
         Check.refuses("a saved state", STATE, drive::restoreState);
     }
 
+    private static void eachTextIsReadByItself() {
+        PlanetDrive drive = new PlanetDrive();
+        String text = "stock 8 9;start 1900;slack 5;body a period 100;train a gear 8 9;";
+        for (int n = 0; n < 3; n++) {
+            Check.equal("loads once more", Check.load(drive, text), 1);
+            Check.equal("fails once more", Check.load(drive, text + text), -1);
+            Check.equal("by its second stock", drive.errorOffset(), text.length());
+        }
+        Check.equal("start", drive.count(2), 1900);
+        Check.equal("loads nothing", Check.load(drive, ""), 0);
+        Check.equal("start then", drive.count(2), 2000);
+        Check.equal("stock then", drive.count(1), 0);
+    }
+
     private static void errorChangesNothing() {
         PlanetDrive drive = Check.driveOf("stock 8 9;start 1900;slack 5;body a period 100;train a gear 8 9 idler 10;");
         drive.crank(100);
@@ -234,6 +249,13 @@ public final class InputTest {
         fails("body a period 10000000;", code, 14);
         fails("body a period 100", code, 17);
         fails("train", code, 5);
+        fails("train ;", code, 6);
+        fails("body a period 100;train a ;", code, 26);
+        fails("body a period 100;train a gear ;", code, 31);
+        fails("body a period 100;train a gear 8 ;", code, 33);
+        fails("body a ;", code, 7);
+        fails("start ;", code, 6);
+        fails("slack ;", code, 6);
         fails("body a period 100;train a;", code, 25);
         fails("body a period 100;train a 8 8;", code, 26);
         fails("body a period 100;train a gear 8;", code, 32);

@@ -63,6 +63,8 @@ public final class SearchTest {
         pair(Check.driveOf("stock 18 12 20 30;body a period 150;"), 0, 12, 18);
         // The own ratio should be 13/12, just between 8/12 and 12/8.
         pair(Check.driveOf("stock 8 12;body a period 1200 retro;body b period 100 on a;"), 1, 8, 12);
+        // 3/2 is due.
+        pair(Check.driveOf("stock 8 12;body a period 200 retro;body b period 100 on a;"), 1, 12, 8);
     }
 
     private static void train(PlanetDrive drive, int body, int a, int b, int c, int d) {
@@ -97,6 +99,11 @@ public final class SearchTest {
         // 10/30 * 10/30 is as far from 5/9 as 10/30 * 30/10: the one with the smaller C.
         train(Check.driveOf("stock 10 30;body a period 180;"), 0, 10, 30, 10, 30);
         train(Check.driveOf("stock 12 13 26 28;body a period 104;"), 0, 12, 13, 28, 26);
+        // A smaller sum goes before a smaller second number.
+        train(Check.driveOf("stock 12 13 17;body a period 136;"), 0, 12, 17, 13, 12);
+        train(Check.driveOf("stock 9 18 25 30;body a period 125;"), 0, 9, 30, 25, 9);
+        // 2 is due, and 9/4 is nearer to it than 1.
+        train(Check.driveOf("stock 8 12;body a period 100 retro;body b period 100 on a;"), 1, 12, 8, 12, 8);
     }
 
     private static void convergents(PlanetDrive drive, int body, long[][] due) {

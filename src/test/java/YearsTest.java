@@ -45,6 +45,9 @@ public final class YearsTest {
         for (int wrong : new int[] {1999, 3000, 0, Integer.MIN_VALUE, Integer.MAX_VALUE}) {
             Check.refuses("end of " + wrong, ARGUMENT, () -> drive.endOf(wrong));
         }
+        // A leap year just before the start does not count.
+        Check.equal("end of 2001", startingIn(2001).endOf(2001), 365);
+        Check.equal("end of 2004", startingIn(2001).endOf(2004), 1461);
         Check.equal("end of 1900", startingIn(1900).endOf(1900), 365);
         Check.equal("end of 3399", startingIn(2400).endOf(3399), 365243);
     }
