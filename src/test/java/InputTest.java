@@ -22,6 +22,7 @@ public final class InputTest {
         loadsBodiesAndEmptiesTheBuffer();
         loadReplacesEverything();
         eachTextIsReadByItself();
+        readsToTheEndOfTheText();
         errorChangesNothing();
         tellsTheLatestLoad();
         takesAllThatTheFormAllows();
@@ -154,6 +155,28 @@ public final class InputTest {
         Check.equal("loads nothing", Check.load(drive, ""), 0);
         Check.equal("start then", drive.count(2), 2000);
         Check.equal("stock then", drive.count(1), 0);
+    }
+
+    private static void readsToTheEndOfTheText() {
+        PlanetDrive drive = new PlanetDrive();
+        String[] texts = {"slack 12;", "slack;", "body abc period 100;"};
+        int[] lengths = {7, 3, 7};
+        int[] offsets = {7, 0, 7};
+        for (int n = 0; n < texts.length; n++) {
+            Check.type(drive, texts[n]);
+            drive.truncateInput(lengths[n]);
+            Check.equal("cut off: " + texts[n], drive.loadDrive(), -1);
+            Check.equal("offset of the cut: " + texts[n], drive.errorOffset(), offsets[n]);
+        }
+        for (String end : new String[] {"slack", "slack 1", "slack 1;", "slack 1 ", "slack 1;;", "slack 1\n", "slack 12345678"}) {
+            Check.load(drive, " ".repeat(900 - end.length()) + end);
+            int due = end.equals("slack 1;") ? -1 : end.endsWith(";;") ? 899 : end.endsWith("8") ? 892 : 900;
+            Check.equal("offset of 900 bytes with " + end, drive.errorOffset(), due);
+        }
+        Check.equal("a full buffer of one letter", Check.load(drive, "a".repeat(900)), -1);
+        Check.equal("its offset", drive.errorOffset(), 0);
+        Check.equal("a full buffer of one statement after the other", Check.load(drive, "slack 1;".repeat(112)), -1);
+        Check.equal("its offset", drive.errorOffset(), 8);
     }
 
     private static void errorChangesNothing() {
