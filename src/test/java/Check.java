@@ -7,8 +7,18 @@ final class Check {
 
     private static int checks = 0;
     private static int wrong = 0;
+    private static String place = "";
 
     private Check() {
+    }
+
+    /** What stands before each row that is wrong from now on. */
+    static void at(String newPlace) {
+        place = newPlace;
+    }
+
+    static int checks() {
+        return checks;
     }
 
     static void equal(String what, long got, long due) {
@@ -44,6 +54,10 @@ final class Check {
         if (got) {
             report(what, "true", "false");
         }
+    }
+
+    static void fail(String what) {
+        isTrue(what, false);
     }
 
     /** The class has to be that very one: what the Java machine throws is of a class below it. */
@@ -103,6 +117,6 @@ final class Check {
 
     private static void report(String what, String got, String due) {
         wrong++;
-        System.out.println(what + ": got " + got + ", due is " + due);
+        System.out.println(place + what + ": got " + got + ", due is " + due);
     }
 }
