@@ -27,7 +27,8 @@ final class BacklashSentences {
     }
 
     private static PlanetDrive withTrain(int slack, String parts) {
-        return Check.driveOf("slack " + slack + ";body a period 100;" + (parts.isEmpty() ? "" : "train a " + parts + ";"));
+        String train = parts.isEmpty() ? "" : "train a " + parts + ";";
+        return Check.driveOf("slack " + slack + ";body a period 100;" + train);
     }
 
     private static void meshes() {
@@ -69,8 +70,8 @@ final class BacklashSentences {
             Check.equal("a whole", withTrain(1, "ring 50 50 ring 100 100").backlash(0), 2);
         });
         Sentence.of(DESCRIPTION, "The backlash of a carrier does not matter.").holds(() -> {
-            PlanetDrive drive = Check.driveOf("slack 999;body c period 100;body a period 100 on c;body b period 100 on c;"
-                    + "train c idler 8 gear 100 8 ring 100 8;train a ring 10 10;");
+            PlanetDrive drive = Check.driveOf("slack 999;body c period 100;body a period 100 on c;"
+                    + "body b period 100 on c;train c idler 8 gear 100 8 ring 100 8;train a ring 10 10;");
             Check.equal("own train", drive.backlash(1), 999);
             Check.equal("no own train", drive.backlash(2), 0);
             drive.crank(9);
@@ -218,8 +219,8 @@ final class BacklashSentences {
     }
 
     private static void changes() {
-        Sentence.of(DESCRIPTION, "A change of a train sets the lag of its body to 0; a change of the slack sets all lags"
-                + " to 0.").holds(() -> {
+        Sentence.of(DESCRIPTION, "A change of a train sets the lag of its body to 0; a change of the slack sets all"
+                + " lags to 0.").holds(() -> {
             int[][] due = {{0, 60, 60}, {0, 60, 60}, {0, 60, 60}, {0, 60, 60}, {0, 60, 60}, {0, 0, 60}, {0, 0, 0},
                 {60, 60, 60}, {60, 60, 60}};
             for (int kind = 0; kind < due.length; kind++) {

@@ -87,19 +87,22 @@ final class ChangeSentences {
                 "body a period 200 retro on back;"};
             boolean[] idler = {false, true, false, true, false, false, false};
             for (int n = 0; n < rest.length; n++) {
-                PlanetDrive drive = Check.driveOf("stock 30 10 20;" + bodies + rest[n]
-                        + "train a idler 8 ring 9 9 idler 8 gear 9 9;");
+                String text = "stock 30 10 20;" + bodies + rest[n] + "train a idler 8 ring 9 9 idler 8 gear 9 9;";
+                PlanetDrive drive = Check.driveOf(text);
+                PlanetDrive asked = Check.driveOf(text);
                 StringBuilder due = new StringBuilder();
-                due.append(drive.bestTrain(2, 0)).append('/').append(drive.bestTrain(2, 1)).append(' ');
-                due.append(drive.bestTrain(2, 2)).append('/').append(drive.bestTrain(2, 3));
+                due.append(asked.bestTrain(2, 0)).append('/').append(asked.bestTrain(2, 1)).append(' ');
+                due.append(asked.bestTrain(2, 2)).append('/').append(asked.bestTrain(2, 3));
                 Check.equal("parts of " + rest[n], drive.build(2), idler[n] ? 3 : 2);
                 Check.equal("train of " + rest[n], train(drive, 2), due + (idler[n] ? " 10i" : ""));
+                Check.equal("driven by the idler of " + rest[n], idler[n] ? drive.part(2, 2, 2) : 0, 0);
             }
         });
     }
 
     private static Supplier<PlanetDrive> withTrain(String parts) {
-        return () -> Check.driveOf("body a period 100;body b period 100;" + (parts.isEmpty() ? "" : "train a " + parts + ";"));
+        String train = parts.isEmpty() ? "" : "train a " + parts + ";";
+        return () -> Check.driveOf("body a period 100;body b period 100;" + train);
     }
 
     private static void addsParts() {
@@ -210,7 +213,8 @@ final class ChangeSentences {
             Check.equal("undone", drive.undo(), 0);
             Check.equal("15 again", stock(drive), "8 9 10 11 12 13 14 15 16 17 18 19 20 21 22");
         });
-        Sentence.of(32, "- `teeth`: 8 to 100", "Throws `IllegalArgumentException` if teeth is out of range").holds(() -> {
+        String noTeeth = "Throws `IllegalArgumentException` if teeth is out of range";
+        Sentence.of(32, "- `teeth`: 8 to 100", noTeeth).holds(() -> {
             Refusal.range(Drives::fresh, 8, 100, Refusal.ARGUMENT, PlanetDrive::addStock);
             Refusal.range(() -> Check.driveOf("stock 50;"), 8, 100, Refusal.ARGUMENT, PlanetDrive::addStock);
             Refusal.refuses("no teeth", Drives::rich, Refusal.ARGUMENT, drive -> drive.addStock(0));
@@ -283,7 +287,8 @@ final class ChangeSentences {
 
     private static void setsSlack() {
         isChange(34, Sentence.A_CHANGE, drive -> drive.setSlack(0));
-        Sentence.of(34, "- `slack`: 0 to 999", "Throws `IllegalArgumentException` if slack is out of range").holds(() -> {
+        String noSlack = "Throws `IllegalArgumentException` if slack is out of range";
+        Sentence.of(34, "- `slack`: 0 to 999", noSlack).holds(() -> {
             Refusal.range(Drives::fresh, 0, 999, Refusal.ARGUMENT, PlanetDrive::setSlack);
             Refusal.within(0, 999, PlanetDrive::setSlack);
         });

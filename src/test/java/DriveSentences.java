@@ -42,7 +42,8 @@ final class DriveSentences {
                     Check.equal("drive " + n + " count " + what, drives[n].count(what), due[n][what]);
                 }
             }
-            PlanetDrive widest = Check.driveOf("body a period 100;train a gear 100 100 idler 100 ring 100 100 idler 100;");
+            PlanetDrive widest = Check.driveOf("body a period 100;"
+                    + "train a gear 100 100 idler 100 ring 100 100 idler 100;");
             Check.equal("the most teeth of a train", widest.count(6), 600);
         });
     }
@@ -102,8 +103,8 @@ final class DriveSentences {
     }
 
     private static void stock() {
-        Sentence.of(10, "Throws `NoSuchElementException` if there are not so many", "- `index`: place in the order, from"
-                + " 0").holds(() -> {
+        Sentence.of(10, "Throws `NoSuchElementException` if there are not so many", "- `index`: place in the order,"
+                + " from 0").holds(() -> {
             for (int index : new int[] {0, 1, 16, -1, Integer.MIN_VALUE, Integer.MAX_VALUE}) {
                 Refusal.refuses("place " + index + " of none", Drives::fresh, Refusal.ELEMENT,
                         drive -> drive.stock(index));

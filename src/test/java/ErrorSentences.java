@@ -268,7 +268,8 @@ final class ErrorSentences {
                         (drive, from) -> drive.growth(0, from, start + 999));
                 Refusal.range(made, start + 1, start + 999, Refusal.ARGUMENT,
                         (drive, to) -> drive.growth(0, start, to));
-                Refusal.refuses("the same year", made, Refusal.ARGUMENT, drive -> drive.growth(0, start + 5, start + 5));
+                Refusal.refuses("the same year", made, Refusal.ARGUMENT,
+                        drive -> drive.growth(0, start + 5, start + 5));
                 Refusal.refuses("the year before", made, Refusal.ARGUMENT,
                         drive -> drive.growth(0, start + 5, start + 4));
                 Refusal.refuses("from before start", made, Refusal.ARGUMENT,
@@ -330,8 +331,8 @@ final class ErrorSentences {
             Refusal.refuses("the year before", made, Refusal.ARGUMENT, drive -> drive.worstYear(0, 2500, 2499));
             Refusal.refuses("the other way round", made, Refusal.ARGUMENT, drive -> drive.worstYear(0, 2999, 2000));
         });
-        Sentence.of(45, "Returns the year, the first one on a tie.", "Finds the year at whose end the error of a pointer"
-                + " is the greatest (as an absolute value), from one year to another one.").holds(() -> {
+        Sentence.of(45, "Returns the year, the first one on a tie.", "Finds the year at whose end the error of a"
+                + " pointer is the greatest (as an absolute value), from one year to another one.").holds(() -> {
             PlanetDrive drive = Check.driveOf("body a period 700;body b period 700 retro;body c period 100;"
                     + "train c ring 8 8;");
             for (int body = 0; body < 2; body++) {

@@ -50,9 +50,9 @@ final class OutputSentences {
     }
 
     private static void writesErrors() {
-        Sentence.of(52, "Writes the errors of a body to the output, in place of what it had: for each of the years first,"
-                + " first plus step and so on to last the year, \":\", the error at its end, and a semicolon; at most 40"
-                + " years.", "Returns the number of bytes.").holds(() -> {
+        Sentence.of(52, "Writes the errors of a body to the output, in place of what it had: for each of the years"
+                + " first, first plus step and so on to last the year, \":\", the error at its end, and a semicolon; at"
+                + " most 40 years.", "Returns the number of bytes.").holds(() -> {
             PlanetDrive drive = Check.driveOf(BODIES);
             int[][] rows = {{2000, 2000, 1}, {2000, 2000, 999}, {2000, 2001, 1}, {2000, 2001, 2}, {2000, 2004, 2},
                 {2000, 2005, 2}, {2000, 2998, 999}, {2000, 2999, 999}, {2001, 2999, 999}, {2999, 2999, 1},

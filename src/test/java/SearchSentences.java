@@ -66,6 +66,8 @@ final class SearchSentences {
         Sentence.of(25, "On a tie the pair with the smaller sum, then that with the smaller A.").holds(() -> {
             pair("stock 8 10 16 20;body a period 200;", 8, 16);
             pair("stock 12 18 20 30;body a period 150;", 12, 18);
+            pair("stock 9 12 30 40;body a period 125;", 9, 12);
+            pair("stock 10 20 40;body c period 100 retro;body a period 160 on c;", 20, 10);
             // 13/12 is just between 8/12 and 12/8.
             pair("stock 8 12;body c period 1200 retro;body a period 100 on c;", 8, 12);
             // 3/4 is just between 10/20 and 20/20, which is no pair; 10/20 and 20/10 are not alike.
@@ -103,14 +105,22 @@ final class SearchSentences {
             train("stock 8 97 89 11;body a period 9999999;", 8, 97, 8, 97);
             // 4 is due, and 20/10 * 20/10 makes it.
             train("stock 10 20;body d period 100;body c period 100 retro;body a period 100 on c;", 10, 20, 20, 10);
-            // 16 numbers, and the least and nearly the greatest ratio of all is due.
+            // 2 is due, and 9/4 is nearer to it than 1.
+            train("stock 8 12;body c period 100 retro;body a period 100 on c;", 12, 8, 12, 8);
+            // 16 numbers, and less than the least ratio of all is due.
             train("stock 8 9 10 11 12 13 14 15 16 17 18 19 20 21 22 100;body a period 9999999;", 8, 100, 8, 100);
+            searchesInTurn();
         });
         Sentence.of(26, "On a tie the smaller sum of all four, then the smaller A, B, C and D, in this order.")
                 .holds(() -> {
                     // The sum, where both make the same, and where one makes more and one less than is due.
                     train("stock 8 12 40;body c period 180 retro;body a period 200 on c;", 8, 12, 12, 8);
                     train("stock 8 10 24;body a period 800;", 8, 24, 8, 24);
+                    train("stock 14 18 40;body a period 250;", 14, 40, 18, 14);
+                    train("stock 8 12 24;body c period 160 retro;body a period 1200 on c;", 12, 8, 12, 24);
+                    train("stock 9 12 15 30;body c period 900 retro;body a period 800 on c;", 9, 15, 12, 30);
+                    train("stock 8 9 14 30;body c period 450 retro;body a period 1200 on c;", 8, 30, 9, 8);
+                    train("stock 9 12 15 30;body c period 240 retro;body a period 1000 on c;", 9, 30, 15, 9);
                     // A: 8/12 * 12/8 against 12/8 * 12/8.
                     train("stock 8 12;body c period 160 retro;body a period 100 on c;", 8, 12, 12, 8);
                     train("stock 18 24;body c period 180 retro;body a period 120 on c;", 18, 24, 24, 18);
@@ -121,6 +131,20 @@ final class SearchSentences {
                     train("stock 10 30;body a period 180;", 10, 30, 10, 30);
                     train("stock 8 12;body c period 450 retro;body a period 200 on c;", 8, 12, 8, 12);
                 });
+    }
+
+    /** What one search found does not matter for the next one. */
+    private static void searchesInTurn() {
+        String[] bodies = {"body a period 100;", "body b period 9999999;", "body c period 240;", "body d period 100;"};
+        PlanetDrive drive = Check.driveOf("stock 8 12 15 24;" + String.join("", bodies));
+        int[][] trains = {{8, 12, 12, 8}, {8, 24, 8, 24}, {8, 12, 15, 24}, {8, 12, 12, 8}};
+        int[][] pairs = {{12, 15}, {8, 24}, {8, 24}, {12, 15}};
+        for (int body = 0; body < 4; body++) {
+            Check.equal("A of a pair for " + body, drive.bestPair(body, 0), pairs[body][0]);
+            Check.equal("D of a train for " + body, drive.bestTrain(body, 3), trains[body][3]);
+            Check.equal("B of a pair for " + body, drive.bestPair(body, 1), pairs[body][1]);
+            Check.equal("B of a train for " + body, drive.bestTrain(body, 1), trains[body][1]);
+        }
     }
 
     private static void convergents() {
@@ -178,8 +202,8 @@ final class SearchSentences {
             Refusal.within(1, 10000, (drive, limit) -> drive.bestFraction(0, limit, 1));
             Refusal.within(0, 1, (drive, what) -> drive.bestFraction(0, 5, what));
         });
-        Sentence.of(28, "Finds the fraction with a denominator from 1 to a limit that differs least from 100 / period of"
-                + " a body.").holds(() -> {
+        Sentence.of(28, "Finds the fraction with a denominator from 1 to a limit that differs least from 100 / period"
+                + " of a body.").holds(() -> {
             fraction(100, 1, 1, 1);
             fraction(199, 1, 1, 1);
             fraction(201, 1, 0, 1);

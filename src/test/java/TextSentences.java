@@ -390,6 +390,10 @@ final class TextSentences {
             }
             fails(SYNTAX, "body ^8 period 100;");
             fails(SYNTAX, "body ^; period 100;");
+            fails(SYNTAX, "body ^;");
+            fails(SYNTAX, "train ^;");
+            fails(SYNTAX, "body a period 100 on ^;");
+            fails(SYNTAX, "body a period ^;");
             fails(SYNTAX, "body ^A period 100;");
         });
         Sentence.of(DESCRIPTION, "Different bodies have different names.").holds(() -> {
