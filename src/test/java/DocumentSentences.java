@@ -44,9 +44,9 @@ final class DocumentSentences {
             Map<Integer, List<String>> sentences = sentences(Files.readAllLines(DOCUMENT));
             Check.equal("promises of the document", sentences.size(), PROMISES + 1);
             for (Sentence test : Sentence.tested()) {
+                String text = String.join(" ", sentences.getOrDefault(test.promise, List.of()));
                 for (String quote : test.quotes) {
-                    Check.isTrue("promise " + test.promise + " says \"" + quote + "\"",
-                            String.join(" ", sentences.get(test.promise)).contains(quote));
+                    Check.isTrue("promise " + test.promise + " says \"" + quote + "\"", text.contains(quote));
                 }
             }
             sentences.forEach(DocumentSentences::isTested);
